@@ -219,8 +219,7 @@ public final class LeastMissed {
         }
         int above = child.waysTo(home, thing, days);
         int below = power(home.left(), days);
-        int common = commonDivisor(above, below);
-        return (what == 0 ? above : below) / common;
+        return inLowestTerms(what == 0 ? above : below, above, below);
     }
 
     public int sale() {
@@ -310,27 +309,23 @@ public final class LeastMissed {
             }
         }
         if (!home.isNone()) {
-            h = digestWouldBe(h);
+            besieged.search(home, 2);
+            offer.search(home);
+            h = 31 * h + home.wouldTake(0);
+            h = 31 * h + home.wouldTake(5);
+            h = 31 * h + besieged.worth;
+            h = 31 * h + besieged.missed;
+            h = 31 * h + besieged.touchedOn(0);
+            h = 31 * h + besieged.touchedOn(1);
+            h = 31 * h + offer.missed;
+            h = 31 * h + offer.worth;
+            h = 31 * h + offer.which;
         }
         for (int place = 0; place < page.size; place++) {
             h = 31 * h + page.codes[place];
         }
         for (int what = 0; what <= 11; what++) {
             h = 31 * h + count(what);
-        }
-        return h;
-    }
-
-    private long digestWouldBe(long before) {
-        long h = before;
-        h = 31 * h + next(0);
-        h = 31 * h + next(5);
-        h = 31 * h + siege(2, 0);
-        h = 31 * h + siege(2, 1);
-        h = 31 * h + siege(2, FIRST_TOUCH);
-        h = 31 * h + siege(2, FIRST_TOUCH + 1);
-        for (int what = 0; what <= 2; what++) {
-            h = 31 * h + makeUp(what);
         }
         return h;
     }
@@ -366,14 +361,14 @@ public final class LeastMissed {
         return product;
     }
 
-    /** At least 1, so that it can divide; of 0 and below it is below, which makes 0 of 1. */
-    private static int commonDivisor(int above, int below) {
+    /** Of 0 above, below itself divides both, which makes 0 of 1. */
+    private static int inLowestTerms(int part, int above, int below) {
         for (int by = below; by > 1; by--) {
             if (above % by == 0 && below % by == 0) {
-                return by;
+                return part / by;
             }
         }
-        return 1;
+        return part;
     }
 
     /** THE PAGE: letters that may become a house. */
@@ -752,7 +747,7 @@ public final class LeastMissed {
         }
     }
 
-    /** SALE: for each set of buyers that are served, the most that the things behind can bring. */
+    /** SALE: for each set of buyers that are served, the most that the things not yet sold can bring. */
     private static final class Auction {
         private final int[] most = new int[1 << MOST_THINGS];
         private final int[] sold = new int[MOST_THINGS];
@@ -796,6 +791,7 @@ public final class LeastMissed {
             return best;
         }
 
+        /** There always is one, as most[served] was made from one of them. */
         private int firstBuyer(House home, int served, int thing) {
             for (int buyer = 0; buyer < home.size; buyer++) {
                 if (!isIn(served, buyer)
