@@ -47,6 +47,9 @@ public final class AllTest {
         x.touch(1);
         due.is("23: once more", x.restore(), 2);
         due.is("23: the image is kept", x.digest(), before);
+        x.forget();
+        x.restore();
+        due.is("23: how much is seen", x.count(8), 1);
     }
 
     private static void restoreNotAll() {
@@ -114,6 +117,10 @@ public final class AllTest {
         x.sale();
         Due.write(x, "~!");
         due.is("25: a house and a page", x.digest(), digestOf(x, "~!"));
+        for (String text : new String[] {"u15,s16;99", "t17,u12;99", "u12,t17;99"}) {
+            x = Due.house(text);
+            due.is("25: next of " + text, x.digest(), digestOf(x, ""));
+        }
         // By hand, from 2 1 1 0 1 0 2097151 0 twice, -1 -1 0 4 0 0 0 0 0, and 2 0 0 0 2 2 0 0 0 0 1 0.
         due.is("25: by hand", Due.house("u11,u11;00").digest(), 7951223014725402994L);
     }

@@ -117,6 +117,8 @@ public final class SeenTest {
         been("t32,t51;00", 10, 0, 0, 0, 551188310);
         been("t32,t51;99", 1, 2147483647, 0, 99, 1043980748);
         been("t11,t11;99", 2, 1, 0, 99, 377401575);
+        been("t35,u55;20", 5, 0, 3, 17, 229283573);
+        been("t36,u55;20", 5, 0, 5, 15, 229283573);
     }
 
     private static void been(String text, int days, int seed, int... want) {

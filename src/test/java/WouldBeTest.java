@@ -48,6 +48,7 @@ public final class WouldBeTest {
         sieged("u11,u11;00", 1, 0, 3, 0, NONE, NONE, NONE);
         sieged("u11,u11;00", 4, 0, 6, 0, 0, 0, 0);
         sieged("p18,c18;00", 1, 0, 10, 1, NONE, NONE, NONE);
+        sieged("p14,t15,t10;09", 1, 1, 6, 1, NONE, NONE, NONE);
     }
 
     private static void siegeOfLikeOnes() {
@@ -133,6 +134,9 @@ public final class WouldBeTest {
         LeastMissed x = Due.takes(Due.house("u10,u11,u11;05"), 1);
         due.is("17: among those that are left", x.odds(1, 2, 0), 3);
         due.is("17: of those", x.odds(1, 2, 1), 4);
+        x = Due.days(Due.house("t14,t12;05"), 1);
+        due.is("17: from what it is since", x.odds(0, 1, 0), 1);
+        due.is("17: of those", x.odds(0, 1, 1), 2);
     }
 
     private static void likely(String text, int thing, int days, int above, int below) {
@@ -182,6 +186,8 @@ public final class WouldBeTest {
         sold(x, 10, 5, 6, NONE);
         x.redeem(0);
         sold(x, 5, NONE, 6, NONE);
+        x = Due.takes(Due.house("t10,t10,t10,t10,t10,t10,t10;99"), 7);
+        sold(x, 24, 3, 4, 5, 6, 0, 1, 2);
     }
 
     private static void sold(LeastMissed x, int together, int... buyers) {
