@@ -324,6 +324,14 @@ public final class WouldBeEdgesTest {
             likely(due, Due.house("s94,u11;50"), 0, 1, 1, 1);
             likely(due, Due.house("s95,u11;50"), 0, 1, 1, 2);
         });
+        due.sentence("Terms, ODDS: each way from what is now", () -> {
+            LeastMissed x = Due.days(Due.house("t15,u12;05"), 5);
+            likely(due, x, 0, 1, 1, 2);
+            likely(due, x, 1, 1, 1, 2);
+            LeastMissed y = Due.days(Due.house("t15,u12;05"), 20);
+            likely(due, y, 0, 1, 1, 2);
+            likely(due, Due.house("u11,u11,u11;05"), 0, 1, 2, 3);
+        });
         due.sentence("Terms, ODDS: LOOKS 20 at most in it, too", () -> {
             LeastMissed x = Due.touches(Due.touches(Due.house("u19,u19;50"), 0, 11), 1, 10);
             likely(due, x, 0, 1, 1, 2);
@@ -470,6 +478,13 @@ public final class WouldBeEdgesTest {
         due.sentence("Terms, SALE: of like ones THING 0 first", () -> {
             sold(due, Due.takes(Due.house("t10,t10,t10,t10,t10,t10,t10;99"), 2), 10, 5, 6);
             sold(due, Due.takes(Due.house("t10,t10,t10;99"), 3), 4, 1, 2, 0);
+        });
+        due.sentence("Terms, SALE: as it is now, whatever it was", () -> {
+            LeastMissed x = Due.takes(Due.house("t10,t10,t10,t10,t10,t10,t10;99"), 7);
+            sold(due, x, 24, 3, 4, 5, 6, 0, 1, 2);
+            sold(due, Due.takes(Due.reads(x, "t10,t10;99"), 2), 2, 1, 0);
+            x.redeem(0);
+            sold(due, x, 1, NONE, 0);
         });
         due.sentence("Terms, SALE: what is sold stays TAKEN", () -> {
             LeastMissed x = Due.takes(Due.house("t10,t10,t10;99"), 2);
