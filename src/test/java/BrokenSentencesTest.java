@@ -1,10 +1,6 @@
-import java.io.ByteArrayOutputStream;
 import java.io.IOException;
 import java.io.InputStream;
-import java.io.OutputStream;
-import java.io.StringWriter;
 import java.lang.reflect.Method;
-import java.net.URI;
 import java.nio.file.Files;
 import java.nio.file.Path;
 import java.util.ArrayList;
@@ -13,13 +9,6 @@ import java.util.List;
 import java.util.Map;
 import java.util.Set;
 import java.util.TreeSet;
-import javax.tools.FileObject;
-import javax.tools.ForwardingJavaFileManager;
-import javax.tools.JavaCompiler;
-import javax.tools.JavaFileManager;
-import javax.tools.JavaFileObject;
-import javax.tools.SimpleJavaFileObject;
-import javax.tools.ToolProvider;
 
 /**
  * The tests of the tests: src/test/broken.txt has, for every sentence that is told, ways to break it in the
@@ -28,10 +17,6 @@ import javax.tools.ToolProvider;
 public final class BrokenSentencesTest {
     private static final Path PROGRAM = Path.of("src/main/java/LeastMissed.java");
     private static final Path BREAKS = Path.of("src/test/broken.txt");
-    private static final JavaCompiler COMPILER = ToolProvider.getSystemJavaCompiler();
-    /** One for each thread, and used again: to open one takes longer than to compile the program. */
-    private static final ThreadLocal<JavaFileManager> FILES =
-        ThreadLocal.withInitial(() -> COMPILER.getStandardFileManager(null, null, null));
     private static final Due due = new Due();
 
     /** In the program, its comments and line ends left out, one text stands for another. */
@@ -98,7 +83,7 @@ public final class BrokenSentencesTest {
         String broken = program.substring(0, at) + one.instead + program.substring(at + one.text.length());
         try {
             Map<String, byte[]> classes = new HashMap<>();
-            String said = compile(broken, classes);
+            String said = JavaText.compile("LeastMissed", broken, classes);
             if (!said.isEmpty()) {
                 return "it does not compile: " + said;
             }
@@ -113,14 +98,6 @@ public final class BrokenSentencesTest {
         Method method = edges.getDeclaredMethod("isBroken", String.class);
         method.setAccessible(true);
         return (Boolean) method.invoke(null, sentence);
-    }
-
-    private static String compile(String code, Map<String, byte[]> classes) {
-        StringWriter said = new StringWriter();
-        JavaFileManager files = new MemoryFiles(FILES.get(), classes);
-        List<JavaFileObject> units = List.of(new Source(code));
-        boolean made = COMPILER.getTask(said, files, null, List.of("-proc:none"), null, units).call();
-        return made ? "" : said.toString();
     }
 
     /** Loads the tests anew, with the broken program in place of the other. */
@@ -140,44 +117,6 @@ public final class BrokenSentencesTest {
             } catch (IOException thrown) {
                 throw new ClassNotFoundException(name, thrown);
             }
-        }
-    }
-
-    private static final class Source extends SimpleJavaFileObject {
-        private final String code;
-
-        Source(String code) {
-            super(URI.create("string:///LeastMissed.java"), Kind.SOURCE);
-            this.code = code;
-        }
-
-        @Override
-        public CharSequence getCharContent(boolean ignoreEncodingErrors) {
-            return code;
-        }
-    }
-
-    private static final class MemoryFiles extends ForwardingJavaFileManager<JavaFileManager> {
-        private final Map<String, byte[]> classes;
-
-        MemoryFiles(JavaFileManager files, Map<String, byte[]> classes) {
-            super(files);
-            this.classes = classes;
-        }
-
-        @Override
-        public JavaFileObject getJavaFileForOutput(Location at, String name, JavaFileObject.Kind kind, FileObject by) {
-            return new SimpleJavaFileObject(URI.create("memory:///" + name.replace('$', '_')), kind) {
-                @Override
-                public OutputStream openOutputStream() {
-                    return new ByteArrayOutputStream() {
-                        @Override
-                        public void close() {
-                            classes.put(name, toByteArray());
-                        }
-                    };
-                }
-            };
         }
     }
 }
